@@ -87,8 +87,6 @@ public final class MuleSeasons {
     private int thieves;
 
     public MuleSeasons() {
-        hasPlain = false;
-        hasImage = false;
     }
 
     // ---- the tape and what is read from it
@@ -987,7 +985,7 @@ public final class MuleSeasons {
                         break;
                     case SIGN:
                         int right = pop();
-                        push(joined(arg == '!' ? 0 : pop(), arg, right));
+                        push(held(joined(arg == '!' ? 0 : pop(), arg, right)));
                         break;
                     case SKIP:
                         if (pop() == 0) {
@@ -1016,14 +1014,14 @@ public final class MuleSeasons {
             return stack[top];
         }
 
-        private static int joined(int left, int sign, int right) {
+        private static long joined(int left, int sign, int right) {
             switch (sign) {
                 case '+':
-                    return held((long) left + right);
+                    return (long) left + right;
                 case '-':
-                    return held((long) left - right);
+                    return (long) left - right;
                 case '*':
-                    return held((long) left * right);
+                    return (long) left * right;
                 case '/':
                     return right == 0 ? 0 : left / right;
                 case '=':
@@ -1159,11 +1157,14 @@ public final class MuleSeasons {
         }
 
         private int growCrops(int month) {
+            int moreSun = ofMonth(month, SUN);
+            int moreRain = ofMonth(month, RAIN);
+            int crops = get(CROPS);
             int ripe = 0;
-            for (int crop = 0; crop < get(CROPS); crop++) {
+            for (int crop = 0; crop < crops; crop++) {
                 if (ofCrop(crop, RIPE) == 0) {
-                    int sun = Math.min(MOST_GOT, ofCrop(crop, SUN_GOT) + ofMonth(month, SUN));
-                    int rain = Math.min(MOST_GOT, ofCrop(crop, RAIN_GOT) + ofMonth(month, RAIN));
+                    int sun = Math.min(MOST_GOT, ofCrop(crop, SUN_GOT) + moreSun);
+                    int rain = Math.min(MOST_GOT, ofCrop(crop, RAIN_GOT) + moreRain);
                     put(placeOfCrop(crop, SUN_GOT), sun);
                     put(placeOfCrop(crop, RAIN_GOT), rain);
                     if (sun >= ofCrop(crop, SUN_NEED) && rain >= ofCrop(crop, RAIN_NEED)) {
