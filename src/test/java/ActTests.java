@@ -124,6 +124,10 @@ public final class ActTests {
         Check.due("apart they go on", x.ahead(1, false, 1), 2);
         x.undo();
         Check.due("room for one", x.turn(1) >= 0, true);
+        x.undo();
+        Check.due("room for one of decades", x.decades(1, 1L) >= 0, true);
+        Check.due("no more of decades", x.decades(1, 1L), -1);
+        Check.due("9,999", x.count(5), 9999);
     }
 
     private static void hay() {
@@ -242,6 +246,8 @@ public final class ActTests {
         Check.due("below", x.set(1, -1), false);
         Check.due("no such", x.set(2, 1), false);
         Check.due("no such", x.set(-1, 1), false);
+        Check.due("no such", x.set(2, 5), false);
+        Check.due("no such", x.set(-1, 5), false);
         Check.due("HAIL", x.count(11), 9);
         Check.due("THIEVES", x.count(12), 1);
         Check.due("back to none", x.set(0, 0), true);
@@ -307,6 +313,7 @@ public final class ActTests {
         Check.due("decades(0)", x.decades(0, 1L), -1);
         Check.due("decades(61)", x.decades(61, 1L), -1);
         Check.due("decades(-1)", x.decades(-1, 1L), -1);
+        Check.due("one", x.decades(1, 1L) >= 0, true);
         Check.due("sixty", x.decades(60, Long.MIN_VALUE) >= 0, true);
         for (int i = 0; i < 5; i++) {
             Check.due("no status", x.status(i), 0);

@@ -200,6 +200,11 @@ public final class ForecastTests {
         Check.due("n 41", z.rests(0, 1, 41, -1), -1);
         Check.due("n 0", z.rests(0, 1, 0, -1), -1);
         Check.due("no plain", new MuleSeasons().rests(0, 1, 1, -1), -1);
+        // A day is worth the two that are given for it: so it rests with and without them.
+        MuleSeasons w = Check.plainWithLaw("sf0h0;ml9;ml9;c", "y:f>1?1;y:0");
+        Check.due("two", w.rests(0, 1, 1, -1), 2);
+        Check.due("none gives", w.rests(0, 1, 1, 0), 0);
+        Check.due("the one gives two", w.rests(0, 1, 1, 1), 20);
         // The one wants an even number together, the other an odd one: no rest.
         MuleSeasons v = Check.plainWithLaw("sf0h0;ml1;ml1;ml9;c", "y:f-f/2*2=0?3;y:1");
         v.turn(1);

@@ -11,6 +11,7 @@ public final class SeenTests {
         Check.test("36 who: nine at most", SeenTests::nineAtMost);
         Check.test("36 who: refused", SeenTests::whoRefused);
         Check.test("37 best", SeenTests::best);
+        Check.test("35 to 37 behind forty turns", SeenTests::fortieth);
         Check.test("37 best: nothing fits", SeenTests::nothingFits);
         Check.end();
     }
@@ -119,7 +120,25 @@ public final class SeenTests {
         Check.due("no plain", new MuleSeasons().best(1), -1);
         Check.due("g 0", x.best(0), -1);
         Check.due("g 6", x.best(6), -1);
+        MuleSeasons y = Check.plainWithLaw(PLAIN, LAW);
+        Check.due("g 0", y.best(0), -1);
+        Check.due("g 6", y.best(6), -1);
+        Check.due("g 5", y.best(5) > 0, true);
         Check.due("all alike", Check.plainWithLaw("m;m;c", "y:0").best(5), 1);
+    }
+
+    /** Behind 40 turns alone the sixth month tells itself, when the five ahead of it are seen to be as told. */
+    private static void fortieth() {
+        MuleSeasons x = Check.plainWithLaw("sh0;ml9;ml9;ml9;ml9;ml3;ml2;ml9;c", "y:1+g");
+        x.seen(8, 0, true);
+        x.seen(17, 1, true);
+        x.seen(26, 2, true);
+        x.seen(35, 3, true);
+        x.seen(38, 4, true);
+        suspects(x, 1, 5, 6, 9);
+        Check.due("the last one", x.best(1), 40);
+        x.seen(40, 6, true);
+        suspects(x, 1, 5);
     }
 
     private static void nothingFits() {

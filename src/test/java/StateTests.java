@@ -226,6 +226,11 @@ public final class StateTests {
         // 54 of sun: 0 and 19 still against 16 and 9.
         z.turn(1);
         Check.due("each 0 at least", z.most(2), 1);
+        MuleSeasons w = Check.plainWithLaw("sh0;ml9s9r1;m;cs40r12;cs30r20", "y:4");
+        // 36 of sun, 4 of rain: 4 and 8 still against 0 and 16; told they need 52 and 50.
+        Check.due("as told", w.most(2), 0);
+        w.turn(1);
+        Check.due("what they need still", w.most(2), 1);
     }
 
     private static void mostOfSeveral() {

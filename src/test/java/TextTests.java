@@ -244,6 +244,10 @@ public final class TextTests {
     private static void plainText() {
         MuleSeasons x = new MuleSeasons();
         Check.due("no plain of nothing", x.text(0), -1);
+        Check.type(x, "sm3;m;m;c");
+        Check.due("no fault", x.fault(0), -1);
+        Check.due("no fault again", x.fault(0), -1);
+        x.end(0);
         Check.type(x, "m;m;m;m;cx");
         Check.due("a fault", x.text(0), -1);
         Check.due("the tape stays", x.count(3), 10);
@@ -374,6 +378,9 @@ public final class TextTests {
         pulls("y:9999*9999+9999*9999-9999*9999", 0);
         pulls("y:[0-9999*9999-9999]/1000/1000+9", 8);
         pulls("y:0007", 7);
+        pulls("y:9999*9999=1000*1000?5;y:2", 5);
+        pulls("y:0-9999*9999=0-1000*1000?5;y:2", 5);
+        pulls("y:9999*100+100=1000*1000?5;y:2", 5);
         pulls(" y : 1 + 2 * [ 1 + 1 ] ", 5);
     }
 
@@ -393,6 +400,9 @@ public final class TextTests {
         pulls("y:m+1=13?5;y:2", 5);
         pulls("y:[m+1]*2=26?5;y:2", 5);
         pulls("y:4;y:5", 4);
+        pulls("y:m<13&f=30?6;y:1", 6);
+        pulls("y:m>11&f=30?6;y:1", 6);
+        pulls("y:!m>12&f=30?6;y:1", 6);
     }
 
     private static void letters() {
