@@ -24,10 +24,14 @@ final class Check {
         failed += wrong == 0 ? 0 : 1;
     }
 
+    static void wrong(String what) {
+        wrong++;
+        System.out.println("  " + what);
+    }
+
     static void due(String call, long got, long want) {
         if (got != want) {
-            wrong++;
-            System.out.println("  " + call + " answered " + got + ", due is " + want);
+            wrong(call + " answered " + got + ", due is " + want);
         }
     }
 
@@ -41,8 +45,7 @@ final class Check {
         } catch (NoSuchElementException e) {
             return;
         }
-        wrong++;
-        System.out.println("  " + call + " threw nothing, due is NoSuchElementException");
+        wrong(call + " threw nothing, due is NoSuchElementException");
     }
 
     static void end() {
