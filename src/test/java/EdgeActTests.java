@@ -35,6 +35,7 @@ public final class EdgeActTests {
         Check.test("21 undo: none", EdgeActTests::undoNone);
         Check.test("21 undo: each TURN is an ACT", EdgeActTests::undoTurns);
         Check.test("21 undo: the latest 40", EdgeActTests::undoForty);
+        Check.test("21 undo: all as it was ahead of the latest 40", EdgeActTests::undoAllOfForty);
         Check.test("21 undo: what is refused is no ACT", EdgeActTests::undoRefused);
         Check.test("21 undo: each ACT by hand", EdgeActTests::undoByHand);
         Check.test("21 undo: another ACT behind it", EdgeActTests::undoThenAct);
@@ -376,6 +377,29 @@ public final class EdgeActTests {
         }
         Check.due("the one ahead of forty stays", y.rule(1), 35);
         Check.due("none", y.undo(), -1);
+    }
+
+    /** It stands at its image, and no act can be undone. */
+    private static MuleSeasons withoutActs(MuleSeasons x) {
+        x.image();
+        x.back();
+        return x;
+    }
+
+    private static void undoAllOfForty() {
+        String text = "sm20f20h1p60;ml2g1s5r5;ml2;ml9;cs9r9;cs99r9;cs99r99;c;cv9";
+        for (int first = 1; first < 60; first += 19) {
+            MuleSeasons due = Check.plainWithLaw(text, "y:1+g");
+            due.turn(first);
+            MuleSeasons x = Check.plainWithLaw(text, "y:1+g");
+            x.turn(first);
+            x.turn(40);
+            for (int i = 0; i < 40; i++) {
+                x.undo();
+            }
+            Check.due("none", x.undo(), -1);
+            Check.due("all as it was behind " + first, Twin.all(withoutActs(x)).equals(Twin.all(withoutActs(due))), true);
+        }
     }
 
     private static void undoRefused() {

@@ -356,6 +356,13 @@ public final class EdgeAskTests {
         };
         oils("the last MONTH", last, 1, 2, 0, 0);
         oils("the last MONTH thrice", last, 3, 2, 777, 10);
+        Twin.Maker lastTwo = () -> {
+            MuleSeasons x = Check.plainWithLaw("sh0;m;m;m;m;m;m;ml1;ml1;cs20r20", "y:k=0?2;y:g*3");
+            x.reverse();
+            return x;
+        };
+        oils("the last MONTH but one twice", lastTwo, 2, 2, 66, 10);
+        oils("the last MONTH but one once", lastTwo, 1, 2, 0, 0);
     }
 
     private static void oilNine() {
@@ -499,6 +506,15 @@ public final class EdgeAskTests {
         Twin.unchanged("none gives", all, x -> x.rests(0, 1, 2, 0), 0);
         Twin.unchanged("both give nine", all, x -> x.rests(0, 1, 2, 1), 99);
         Twin.unchanged("no third one", all, x -> x.rests(0, 1, 2, 2), -1);
+        // By ten of FEED: neither can give them alone.
+        Twin.Maker ten = with("sf0h0;ml9;ml9;c", "y:f>9?9;y:0");
+        Twin.unchanged("how many", ten, x -> x.rests(0, 1, 2, -1), 10);
+        Twin.unchanged("none gives", ten, x -> x.rests(0, 1, 2, 0), 0);
+        for (int i = 1; i < 10; i++) {
+            int asked = i;
+            Twin.unchanged("ten together", ten, x -> x.rests(0, 1, 2, asked), 10 * i + 10 - i);
+        }
+        Twin.unchanged("no more", ten, x -> x.rests(0, 1, 2, 10), -1);
     }
 
     private static void restsNone() {

@@ -11,6 +11,7 @@ public final class EdgePlainTests {
         Check.test("term PLAIN: m, 2 .. 8", EdgePlainTests::months);
         Check.test("term PLAIN: c, 1 .. 5", EdgePlainTests::crops);
         Check.test("term PLAIN: in any order", EdgePlainTests::anyOrder);
+        Check.test("term PLAIN: five CROPS ahead of eight MONTHS", EdgePlainTests::cropsAhead);
         Check.test("term PLAIN: all fourteen CLAUSES", EdgePlainTests::fourteen);
         Check.test("term PLAIN: CLAUSES with ; between", EdgePlainTests::between);
         Check.test("term PLAIN: ITEMS, none or more", EdgePlainTests::items);
@@ -111,6 +112,23 @@ public final class EdgePlainTests {
             Check.due("MONTH 1 of " + text, x.month(1, 0), 7);
             Check.due("CROP 0 of " + text, x.crop(0, 2), 4);
         }
+    }
+
+    private static void cropsAhead() {
+        MuleSeasons x = taken("cs1r2v3;sm7;cs4r5v6;cs7;c;cv8;m;m;m;m;m;m;m;ml8g7s6r5p4", 8);
+        int[][] due = {{1, 2, 3}, {4, 5, 6}, {7, 10, 10}, {10, 10, 10}, {10, 10, 8}};
+        for (int crop = 0; crop < 5; crop++) {
+            for (int what = 0; what < 6; what++) {
+                Check.due("crop(" + crop + ", " + what + ")", x.crop(crop, what), what < 3 ? due[crop][what] : 0);
+            }
+        }
+        for (int what = 0; what < 5; what++) {
+            Check.due("month(7, " + what + ")", x.month(7, what), 8 - what);
+        }
+        Check.due("MULE", x.rule(0), 7);
+        Check.due("FEED", x.rule(1), 30);
+        Check.due("RIPE", x.count(9), 0);
+        Check.due("RIPE by an odd POLE", taken("c;m;m;m;m;m;m;m;mp9", 8).count(9), 0);
     }
 
     private static void fourteen() {

@@ -96,6 +96,12 @@ public final class EdgeSeenTests {
         Twin.unchanged("the least", plain("ml1;ml1;c"), x -> x.year(), 2);
         Twin.unchanged("the most", plain("ml9;ml9;ml9;ml9;ml9;ml9;ml9;ml9;c"), x -> x.year(), 72);
         Twin.unchanged("without", plain("m;m;c"), x -> x.year(), 6);
+        Twin.unchanged("whichever TURN it is", () -> walked("sh0;ml2;ml9;c", 9), x -> x.year(), 11);
+        Twin.unchanged("the other way, too", () -> {
+            MuleSeasons x = walked("sh0;ml9;ml9;ml9;ml9;ml9;ml9;ml9;ml9;c", 70);
+            x.reverse();
+            return x;
+        }, x -> x.year(), 72);
     }
 
     private static MuleSeasons seenSome(int many) {
@@ -347,6 +353,8 @@ public final class EdgeSeenTests {
         Twin.unchanged("of two alike", plain("ms1r1;ms9r0;ms0r9;c"), x -> x.most(0), 1);
         Twin.unchanged("of all alike", plain("ms0r0;ms0r0;c"), x -> x.most(0), 0);
         Twin.unchanged("the most", plain("ms9r8;m;m;m;m;m;m;ms9r9;c"), x -> x.most(0), 7);
+        Twin.unchanged("of eight", plain("ms0r1;m;ms0r0;m;m;m;m;ms3r4;cv99"), x -> x.most(0), 7);
+        Twin.unchanged("of eight, whatever CROPS got", () -> walked("sh0;m;m;m;m;m;m;m;m;cs99v99", 60), x -> x.most(0), 0);
         MuleSeasons x = Check.plain("ms5r9;ms5r8;c");
         x.chip(0);
         Check.due("13 and 13 as it is now", x.most(0), 0);
@@ -426,5 +434,13 @@ public final class EdgeSeenTests {
         }
         x.sow(1);
         Check.due("SOWN again", x.worths(), 9);
+        MuleSeasons y = Check.plainWithLaw("sh0;ml9;ml9;m;m;m;m;m;mp9;cs99v9;cs99v8;cs3r3v7;cs99v6;cs99v5", "y:1");
+        Check.due("of five", y.worths(), 35);
+        for (int t = 1; t < 20; t++) {
+            y.turn(1);
+            Check.due("of five behind " + t, y.worths(), 28);
+            Check.due("NEEDY of five behind " + t, y.most(2), 0);
+            Check.due("RIPE of five behind " + t, y.count(9), 4);
+        }
     }
 }

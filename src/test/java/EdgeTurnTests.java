@@ -425,12 +425,16 @@ public final class EdgeTurnTests {
     }
 
     private static void logUndone() {
-        MuleSeasons x = atTurn(PLAIN, "y:1", 64);
-        for (int n = 63; n > 24; n--) {
+        MuleSeasons x = atTurn(PLAIN, "y:1", 99);
+        for (int n = 98; n > 58; n--) {
             x.undo();
-            Check.due("how long at " + n, x.count(14), Math.min(60, n));
-            Check.due("the latest at " + n, x.log(0, 1), dayOf(n));
-            Check.due("the first at " + n, x.log(Math.min(60, n) - 1, 1), dayOf(Math.max(1, n - 59)));
+            int rows = Math.min(60, n);
+            Check.due("how long at " + n, x.count(14), rows);
+            for (int i = 0; i < rows; i++) {
+                Check.due("log(" + i + ", 1) at " + n, x.log(i, 1), dayOf(n - i));
+                Check.due("log(" + i + ", 2) at " + n, x.log(i, 2), 1);
+            }
+            Check.due("none ahead of it at " + n, x.log(rows, 2), -1);
         }
     }
 
